@@ -18,6 +18,8 @@ public final class LychWeights {
     /** WEIGHTS stand in THE TEXT this much higher, for it has no sign. */
     private static final int WEIGHT_SHIFT = 20;
     private static final int TENTHS = 10;
+    /** Six LOADS of some 180 at most can't come near it. */
+    private static final int ABOVE_ALL_ERRORS = 1000000;
     private static final int NO_FAULT = -1;
     private static final int FAULT_SHIFT = -10;
 
@@ -468,7 +470,7 @@ public final class LychWeights {
         if (left == 0 || depth >= MOST) {
             return 0;
         }
-        int least = Integer.MAX_VALUE;
+        int least = ABOVE_ALL_ERRORS;
         for (int l = 0; l < parish.dead; l++) {
             if (isIn(left, l)) {
                 least = Math.min(least, leastErrorFrom(l, left, needle, thumb, depth));
@@ -503,13 +505,16 @@ public final class LychWeights {
     }
 
     private int bestNext(int left, int needle, int thumb, int depth) {
-        int least = leastError(left, needle, thumb, depth);
+        int best = NONE;
+        int least = ABOVE_ALL_ERRORS;
         for (int l = 0; l < parish.dead; l++) {
-            if (isIn(left, l) && leastErrorFrom(l, left, needle, thumb, depth) == least) {
-                return l;
+            int error = isIn(left, l) ? leastErrorFrom(l, left, needle, thumb, depth) : ABOVE_ALL_ERRORS;
+            if (error < least) {
+                least = error;
+                best = l;
             }
         }
-        return NONE;
+        return best;
     }
 
     // ---- what was TOLD

@@ -22,8 +22,8 @@ public final class LanguageTest {
         check.due("annotations", 0, times(code, "@"));
         check.due("texts", 0, times(code, "\""));
         check.due("signs above 126", 0, times(text, "[^\\n -~]"));
-        check.due("library classes but Math and Integer", 0,
-            times(code, "\\b(?!Math\\b|Integer\\b)[A-Z][a-zA-Z]*\\.(?!MAX_VALUE)[a-z]\\w*\\("));
+        check.due("library functions but these", 0,
+            times(code, "\\b[A-Z][a-zA-Z]*\\.(?<!Math\\.(?=abs|max|min)|Integer\\.(?=bitCount))\\w"));
         check.due("static blocks", 0, times(code, "static\\s*\\{"));
         check.due("Exact functions", 0, times(code, "Exact\\("));
         lengths(code);
