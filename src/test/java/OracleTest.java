@@ -67,7 +67,10 @@ public final class OracleTest {
                 call(0, ' ', 0, 0);
             }
         }
-        call(2, 0, 0, 0);
+        // what an object answers behind its 512th call is free
+        if (calls < CALLS) {
+            call(2, 0, 0, 0);
+        }
     }
 
     private String text() {
@@ -163,9 +166,9 @@ public final class OracleTest {
 
     private void call(int name, int a, int b, int c) {
         calls++;
-        if (NAMES[name].equals("tells") && random.nextInt(2) == 0 && a >= 1 && a <= 40 && x.count(1) > 0) {
+        if (NAMES[name].equals("tells") && random.nextInt(2) == 0 && a >= 1 && a <= 40 && o.count(1) > 0) {
             // a reading that some set of DEEDS gives, so that CAN isn't always none
-            b = Math.max(0, Math.min(99, a + random.nextInt(12) - 6 - x.now(2)));
+            b = Math.max(0, Math.min(99, a + random.nextInt(12) - 6 - o.now(2)));
         }
         long got = ofProgram(name, a, b, c);
         long want = ofOracle(name, a, b, c);
